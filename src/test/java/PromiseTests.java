@@ -338,6 +338,13 @@ public final class PromiseTests {
                 due(a + " by " + b, sum(x, 2), a.divide(b));
             }
         }
+        String[][] wronglyGuessed = {{"280010000", "280010001"}, {"7fffffff8001", "1ffffffff"}, {"80017fffffff", "10000ffff"}};
+        for (String[] pair : wronglyGuessed) {
+            set(x, 0, new BigInteger(pair[0], 16));
+            set(x, 1, new BigInteger(pair[1], 16));
+            due("divide", () -> x.divide(2, 0, 1), 1);
+            due(pair[0] + " by " + pair[1], sum(x, 2), sum(x, 0).divide(sum(x, 1)));
+        }
         set(x, 3, 0);
         due("0 by 1", () -> x.divide(2, 3, 1), 1);
         due("0", sum(x, 2), 0);
