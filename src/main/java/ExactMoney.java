@@ -24,7 +24,7 @@ public final class ExactMoney {
     private static final int HALF_EVEN = 4;
     private static final int MOST_ZEROS = 18;
     private static final int MOST_BEHIND_POINT = 12;
-    private static final int DEAREST_FEE_PARTS = 1000000;
+    private static final int GREATEST_Q = 1000000;
     private static final int KINDS_OF_ACTS = 5;
     private static final int LONGEST_ROW = 12;
 
@@ -107,7 +107,8 @@ public final class ExactMoney {
         }
         desk.above.copy(ledger.sums[a]);
         desk.below.setLong(powerOfTen(u));
-        desk.split(way);
+        desk.split();
+        desk.settle(way);
         desk.first.product(desk.quotient, desk.below);
         return keepSum(r, desk.first);
     }
@@ -150,13 +151,13 @@ public final class ExactMoney {
             desk.first.setLong(weights[k]);
             desk.above.product(desk.second, desk.first);
             desk.below.setLong(all);
-            desk.split(DOWN);
+            desk.split();
             ledger.sums[from + k].copy(desk.quotient);
             lost[k] = desk.rest.lowestLong();
             lostTogether += lost[k];
         }
         int left = (int) (lostTogether / all);
-        for (int unit = 0; unit < left; unit++) {
+        for (int handedOut = 0; handedOut < left; handedOut++) {
             int k = greatestLost(n);
             ledger.sums[from + k].increment();
             lost[k] = -1;
@@ -247,7 +248,7 @@ public final class ExactMoney {
     // ---- pools
 
     public int fee(int pool, int p, int q) {
-        if (!isPool(pool) || p < 0 || p >= q || q > DEAREST_FEE_PARTS) {
+        if (!isPool(pool) || p < 0 || p >= q || q > GREATEST_Q) {
             return BAD;
         }
         boolean wasOpen = ledger.pools[pool].isOpen();
@@ -390,7 +391,8 @@ public final class ExactMoney {
         desk.first.setLong(above);
         desk.above.product(ledger.sums[a], desk.first);
         desk.below.setLong(below);
-        desk.split(way);
+        desk.split();
+        desk.settle(way);
         return keepSum(r, desk.quotient);
     }
 
@@ -403,7 +405,7 @@ public final class ExactMoney {
         }
         desk.above.copy(ledger.sums[a]);
         desk.below.copy(ledger.sums[b]);
-        desk.split(DOWN);
+        desk.split();
         return keepSum(r, desk.quotient);
     }
 
@@ -597,16 +599,8 @@ public final class ExactMoney {
         private final Wide first = new Wide();
         private final Wide second = new Wide();
 
-        /** What is above by what is below (not 0), rounded; the rest is that of DOWN. */
-        private void split(int way) {
-            splitDown();
-            if (goesUp(way)) {
-                quotient.increment();
-            }
-        }
-
-        /** Above may have 21 limbs at most. */
-        private void splitDown() {
+        /** What is above, 20 limbs at most, by what is below (not 0), DOWN, and the rest. */
+        private void split() {
             quotient.clear();
             rest.copy(above);
             int n = below.usedLimbs();
@@ -654,6 +648,13 @@ public final class ExactMoney {
             return left < 0 ? -1 : 0;
         }
 
+        /** The quotient of the latest split, rounded by a WAY. */
+        private void settle(int way) {
+            if (goesUp(way)) {
+                quotient.increment();
+            }
+        }
+
         private boolean goesUp(int way) {
             if (way == DOWN || rest.isZero()) {
                 return false;
@@ -674,7 +675,7 @@ public final class ExactMoney {
         private void proportion(Wide a, Wide b, Wide c) {
             above.product(a, b);
             below.copy(c);
-            split(DOWN);
+            split();
         }
 
         /** First becomes the root of a b, DOWN, by Newton's way from a number not below it. */
@@ -686,7 +687,7 @@ public final class ExactMoney {
             }
             for (int guess = 0; guess < MOST_GUESSES; guess++) {
                 below.copy(first);
-                splitDown();
+                split();
                 quotient.plus(first);
                 quotient.shrink(2);
                 if (quotient.compareWith(first) >= 0) {
@@ -794,7 +795,7 @@ public final class ExactMoney {
             desk.below.copy(x);
             desk.below.scale(q, 0);
             desk.below.plus(desk.first);
-            desk.split(DOWN);
+            desk.split();
             desk.first.copy(desk.quotient);
             if (desk.first.isZero()) {
                 return NONE;
@@ -817,7 +818,8 @@ public final class ExactMoney {
             desk.below.copy(y);
             desk.below.minus(e);
             desk.below.scale(q - p, 0);
-            desk.split(UP);
+            desk.split();
+            desk.settle(UP);
             desk.first.copy(desk.quotient);
             if (!desk.bothFitPool(x, desk.first)) {
                 return OVER;

@@ -1,9 +1,12 @@
 import java.lang.reflect.InvocationTargetException;
 import java.lang.reflect.Method;
+import java.math.BigDecimal;
 import java.math.BigInteger;
+import java.math.RoundingMode;
 import java.util.ArrayList;
 import java.util.Arrays;
 import java.util.List;
+import java.util.Locale;
 import java.util.Map;
 import java.util.Random;
 import java.util.TreeMap;
@@ -295,16 +298,16 @@ public final class ModelTests {
         }
 
         static BigInteger rounded(BigInteger above, BigInteger below, int way) {
-            java.math.RoundingMode[] modes = {
-                java.math.RoundingMode.DOWN, java.math.RoundingMode.UP, java.math.RoundingMode.HALF_UP,
-                java.math.RoundingMode.HALF_DOWN, java.math.RoundingMode.HALF_EVEN};
-            return new java.math.BigDecimal(above).divide(new java.math.BigDecimal(below), 0, modes[way]).toBigInteger();
+            RoundingMode[] modes = {
+                RoundingMode.DOWN, RoundingMode.UP, RoundingMode.HALF_UP,
+                RoundingMode.HALF_DOWN, RoundingMode.HALF_EVEN};
+            return new BigDecimal(above).divide(new BigDecimal(below), 0, modes[way]).toBigInteger();
         }
 
         static String textOf(BigInteger sum, int unit) {
             BigInteger[] parts = sum.divideAndRemainder(BigInteger.TEN.pow(unit));
-            String ahead = String.format("%,d", parts[0]);
-            return unit == 0 ? ahead : ahead + "." + String.format("%0" + unit + "d", parts[1]);
+            String ahead = String.format(Locale.ROOT, "%,d", parts[0]);
+            return unit == 0 ? ahead : ahead + "." + String.format(Locale.ROOT, "%0" + unit + "d", parts[1]);
         }
 
         public int put(int r, long v) {

@@ -1,4 +1,5 @@
 import java.math.BigInteger;
+import java.util.Locale;
 
 /** For each promise of the document: ordinary inputs, the edges it names, and wrong inputs. */
 public final class PromiseTests {
@@ -517,7 +518,7 @@ public final class PromiseTests {
         set(x, 3, MOST);
         x.unit(0);
         due("the longest", x.print(3), 103);
-        due("in full", printed(x, 3), String.format("%,d", MOST));
+        due("in full", printed(x, 3), String.format(Locale.ROOT, "%,d", MOST));
         for (int r : NO_REGISTERS) {
             due("print(" + r + ")", x.print(r), BAD);
         }
@@ -577,10 +578,10 @@ public final class PromiseTests {
         x.unit(0);
         due("the greatest", read(x, MOST.toString()), "1 at -4");
         due("its SUM", sum(x, 0), MOST);
-        due("with commas", read(x, String.format("%,d", MOST)), "1 at -4");
+        due("with commas", read(x, String.format(Locale.ROOT, "%,d", MOST)), "1 at -4");
         due("its SUM", sum(x, 0), MOST);
         due("one more", read(x, MOST.add(ONE).toString()), "-12 at 78");
-        due("with commas", read(x, String.format("%,d", MOST.add(ONE))), "-12 at 103");
+        due("with commas", read(x, String.format(Locale.ROOT, "%,d", MOST.add(ONE))), "-12 at 103");
         due("120 figures", read(x, "9".repeat(120)), "-12 at 120");
         due("2^384", read(x, ONE.shiftLeft(384).toString()), "-12 at 116");
         x.unit(12);
