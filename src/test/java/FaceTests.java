@@ -25,9 +25,19 @@ public final class FaceTests {
         "int leave(int,int,int,int)", "int give(int,int,int,int)", "int ask(int,int,int,int)", "int see(int,int,int)",
         "int later(int,int,int,int)", "int done()", "int tries()", "int why()"};
 
+    /** What LANGUAGE.md rules out wherever it stands. */
     private static final String[] NOT_IN_THE_TEXT = {
-        "import", "package", "catch", "finally", "synchronized", "assert", "->", "::", "Exact(", "BigInteger",
-        "protected", "static {", "instanceof", ".equals(", "while (true)", "for (;;)", "double", "float"};
+        "package ", "finally", "synchronized", "assert ", "::", "static {", "while (true)", "for (;;)", "getMessage",
+        "BigInteger", "BigDecimal", "System.out", "System.err", "currentTimeMillis", "nanoTime", "Random", "Thread"};
+
+    private static final Set<String> IMPORTED = Set.of(
+        "java.util.ArrayList", "java.util.List", "java.util.Arrays", "java.util.Iterator", "java.util.NoSuchElementException");
+
+    /** Rule 6; the document itself wants one more to be thrown. */
+    private static final Set<String> CAUGHT = Set.of(
+        "IllegalStateException", "IllegalArgumentException", "IndexOutOfBoundsException", "ArithmeticException",
+        "UnsupportedOperationException", "NoSuchElementException", "RuntimeException");
+    private static final String ALSO_THROWN = "ArrayIndexOutOfBoundsException";
 
     private static int wrong = 0;
 
@@ -70,6 +80,7 @@ public final class FaceTests {
                 boolean isPrivate = Modifier.isPrivate(method.getModifiers());
                 due(each + "." + method.getName() + " bears a public one's name", isPrivate && names.contains(method.getName()), false);
                 due(method + " has too many parameters", method.getParameterCount() > 7, false);
+                due(method + " is a lambda", method.getName().startsWith("lambda$"), false);
             }
         }
     }
@@ -111,11 +122,25 @@ public final class FaceTests {
             due("'" + word + "' in the text", code.contains(word), false);
         }
         due("a character beyond 255", text.chars().anyMatch(c -> c > 255), false);
-        Matcher thrown = Pattern.compile("throw new (\\w+)").matcher(code);
-        while (thrown.find()) {
-            String name = thrown.group(1);
-            due(name, name.equals("ArithmeticException") || name.equals("ArrayIndexOutOfBoundsException"), true);
+        due("a call of Math that ends in Exact", Pattern.compile("\\b(Math|Integer|Long)\\.\\w+Exact\\(").matcher(code).find(), false);
+        for (String name : found("import ([\\w.*]+)", code)) {
+            due("an import of " + name, IMPORTED.contains(name), true);
         }
+        for (String name : found("catch \\((?:final )?([\\w |]+) \\w+\\)", code)) {
+            due("a catch of " + name, CAUGHT.contains(name), true);
+        }
+        for (String name : found("throw new (\\w+)", code)) {
+            due("a throw of " + name, CAUGHT.contains(name) || name.equals(ALSO_THROWN), true);
+        }
+    }
+
+    private static List<String> found(String pattern, String code) {
+        List<String> found = new ArrayList<>();
+        Matcher matcher = Pattern.compile(pattern).matcher(code);
+        while (matcher.find()) {
+            found.add(matcher.group(1));
+        }
+        return found;
     }
 
     public static void main(String[] args) throws IOException {

@@ -325,27 +325,31 @@ public final class PromiseTests {
         }
     }
 
-    private static void promise9() {
+    private static void divided(BigInteger a, BigInteger b) {
         ExactMoney x = new ExactMoney();
+        set(x, 0, a);
+        set(x, 1, b);
+        due("divide", () -> x.divide(2, 0, 1), 1);
+        due(a + " by " + b, sum(x, 2), a.divide(b));
+    }
+
+    private static void promise9() {
         BigInteger[] sums = {
             MOST, ONE, power(2, 255), power(2, 128), power(2, 128).subtract(ONE), power(10, 77), power(2, 240),
             power(2, 16), power(2, 16).subtract(ONE), power(2, 255).add(ONE), power(3, 100),
             power(2, 192).subtract(ONE), power(2, 255).subtract(ONE)};
         for (BigInteger a : sums) {
             for (BigInteger b : sums) {
-                set(x, 0, a);
-                set(x, 1, b);
-                due("divide", () -> x.divide(2, 0, 1), 1);
-                due(a + " by " + b, sum(x, 2), a.divide(b));
+                divided(a, b);
             }
         }
         String[][] wronglyGuessed = {{"280010000", "280010001"}, {"7fffffff8001", "1ffffffff"}, {"80017fffffff", "10000ffff"}};
         for (String[] pair : wronglyGuessed) {
-            set(x, 0, new BigInteger(pair[0], 16));
-            set(x, 1, new BigInteger(pair[1], 16));
-            due("divide", () -> x.divide(2, 0, 1), 1);
-            due(pair[0] + " by " + pair[1], sum(x, 2), sum(x, 0).divide(sum(x, 1)));
+            divided(new BigInteger(pair[0], 16), new BigInteger(pair[1], 16));
         }
+        ExactMoney x = new ExactMoney();
+        set(x, 0, MOST);
+        set(x, 1, 1);
         set(x, 3, 0);
         due("0 by 1", () -> x.divide(2, 3, 1), 1);
         due("0", sum(x, 2), 0);
@@ -456,14 +460,15 @@ public final class PromiseTests {
     }
 
     private static void promise13() {
-        ExactMoney x = new ExactMoney();
-        due("of 0", x.figures(0), 1);
+        due("of 0", new ExactMoney().figures(0), 1);
         for (int n = 1; n <= 77; n++) {
+            ExactMoney x = new ExactMoney();
             set(x, 0, power(10, n));
             due("of 10^" + n, x.figures(0), n + 1);
             set(x, 0, power(10, n).subtract(ONE));
             due("of 10^" + n + " - 1", x.figures(0), n);
         }
+        ExactMoney x = new ExactMoney();
         set(x, 15, MOST);
         due("of the greatest", x.figures(15), 78);
         for (int r : NO_REGISTERS) {
@@ -563,18 +568,30 @@ public final class PromiseTests {
     }
 
     private static void promise19() {
-        ExactMoney x = new ExactMoney();
         Object[][] rows = {
             {2, "0.00", 0L}, {2, "0.07", 7L}, {2, "7.00", 700L}, {2, "1,234.56", 123456L}, {2, "1234.56", 123456L},
             {2, "12,345,678.90", 1234567890L}, {2, "100.00", 10000L}, {2, "100,000.00", 10000000L}, {0, "0", 0L},
             {0, "9", 9L}, {0, "1,000", 1000L}, {0, "1000000", 1000000L}, {0, "10", 10L}, {12, "0.000000000001", 1L},
             {12, "1.000000000000", 1000000000000L}, {1, "1,000,000.5", 10000005L}};
         for (Object[] row : rows) {
+            ExactMoney x = new ExactMoney();
             x.unit((Integer) row[0]);
             set(x, 0, 77);
             due("read of " + row[1], read(x, (String) row[1]), "1 at -4");
             due("its SUM", sum(x, 0), row[2]);
         }
+        readGreatSums();
+        ExactMoney x = new ExactMoney();
+        set(x, 0, MOST);
+        x.unit(12);
+        String text = MOST.add(ONE).toString();
+        due("with a point", read(x, text.substring(0, 66) + "." + text.substring(66)), "-12 at 79");
+        due("it stays", sum(x, 0), MOST);
+        readRefuses(x);
+    }
+
+    private static void readGreatSums() {
+        ExactMoney x = new ExactMoney();
         x.unit(0);
         due("the greatest", read(x, MOST.toString()), "1 at -4");
         due("its SUM", sum(x, 0), MOST);
@@ -582,13 +599,10 @@ public final class PromiseTests {
         due("its SUM", sum(x, 0), MOST);
         due("one more", read(x, MOST.add(ONE).toString()), "-12 at 78");
         due("with commas", read(x, String.format(Locale.ROOT, "%,d", MOST.add(ONE))), "-12 at 103");
-        due("120 figures", read(x, "9".repeat(120)), "-12 at 120");
-        due("2^384", read(x, ONE.shiftLeft(384).toString()), "-12 at 116");
-        x.unit(12);
-        String text = MOST.add(ONE).toString();
-        due("with a point", read(x, text.substring(0, 66) + "." + text.substring(66)), "-12 at 79");
-        due("it stays", sum(x, 0), MOST);
-        readRefuses(x);
+        ExactMoney y = new ExactMoney();
+        y.unit(0);
+        due("120 figures", read(y, "9".repeat(120)), "-12 at 120");
+        due("2^384", read(y, ONE.shiftLeft(384).toString()), "-12 at 116");
     }
 
     private static void readRefuses(ExactMoney x) {
@@ -621,6 +635,7 @@ public final class PromiseTests {
             {0, "1,000,", 6}, {0, "1\u0000", 1}, {0, "\u00ff", 0}, {12, "1.00000000000", 13},
             {12, "1.0000000000000", 14}, {1, "1.0", NONE}, {1, "1.00", 3}};
         for (Object[] row : rows) {
+            x = new ExactMoney();
             x.unit((Integer) row[0]);
             int answer = row[2].equals(NONE) ? 1 : -11;
             due("read of '" + row[1] + "' with " + row[0], read(x, (String) row[1]), answer + " at " + row[2]);
