@@ -343,7 +343,8 @@ public final class PromiseTests {
                 divided(a, b);
             }
         }
-        String[][] wronglyGuessed = {{"280010000", "280010001"}, {"7fffffff8001", "1ffffffff"}, {"80017fffffff", "10000ffff"}};
+        String[][] wronglyGuessed = {{"280010000", "280010001"}, {"7fffffff8001", "1ffffffff"}, {"80017fffffff", "10000ffff"},
+            {"7ffffffd0001", "8000ffff"}, {"7ffefffb0003", "8000ffff"}, {"7ffffffffffffffd00000001", "80000000ffffffff"}};
         for (String[] pair : wronglyGuessed) {
             divided(new BigInteger(pair[0], 16), new BigInteger(pair[1], 16));
         }

@@ -201,8 +201,10 @@ public final class SentenceTests {
             !take(2, 1, 0) = LESS; !times(2, 0, 2, 1, 0) = OVER; !times(2, 0, 2, 0, 0) = throws.ArithmeticException
             !round(2, 0, 18, 1) = OVER; !divide(2, 0, 3) = throws.ArithmeticException; !divide(0, 0, 3) = throws.ArithmeticException
 
-            weight(0, 5); weight(11, 7); !weight(0, 10^12 + 1) = BAD; !weight(11, -1) = BAD; put(0, 9)
-            !share(0, 1, 0) = BAD; !share(0, 1, 13) = BAD; !share(0, 16, 1) = BAD; weight(0, 0); !share(0, 1, 11) = NONE
+            weight(0, 5); weight(11, 7); !weight(0, 10^12 + 1) = BAD; !weight(11, -1) = BAD; !weight(12, 1) = BAD; put(0, 9)
+            !share(0, 1, 0) = BAD; !share(0, 1, 13) = BAD; !share(0, 16, 1) = BAD
+
+            weight(11, 7); put(0, 9); put(1, 8); !share(0, 1, 11) = NONE; !weight(11, 10^12 + 1) = BAD; !weight(0, -1) = BAD
 
             unit(5); put(0, 1234567); print(0); !unit(-1) = BAD; !unit(13) = BAD; !print(16) = BAD; !print(-1) = BAD
             !out(99) = throws.ArrayIndexOutOfBoundsException; !figure(0, 7) = throws.ArrayIndexOutOfBoundsException
@@ -325,6 +327,8 @@ public final class SentenceTests {
             unit(0); put(0, 7); tape('0'); read(0) = 1; sum(0) = 0; tape('00'); read(0) = -11; place() = 1; tape('09'); read(0) = -11
             place() = 1; tape('90'); read(0) = 1; sum(0) = 90; tape('0.'); read(0) = -11; place() = 1
 
+            unit(1); tape('0.1'); read(0) = 1; sum(0) = 1; tape('10.0'); read(0) = 1; sum(0) = 100; tape('00.0'); read(0) = -11; place() = 1
+
             tape('/.00'); read(0) = -11; place() = 0; tape(':.00'); read(0) = -11; place() = 0; tape('9.00'); read(0) = 1; sum(0) = 900
             """);
         say("either without any , or with all:", """
@@ -398,6 +402,11 @@ public final class SentenceTests {
             read(0) = 1; sum(0) = TOP; place() = NONE
 
             unit(0); feeds('9', 120); read(0) = -12; place() = 120; feed('1'); feeds('0', 78); read(0) = -12; place() = 79
+
+            unit(0); tape(2^257); read(0) = -12; place() = 78; tape(2^264); read(0) = -12; place() = 80; tape(2^288); read(0) = -12; place() = 87
+
+            unit(0); tape(2^320 + 5); read(0) = -12; place() = 97; tape(2^384 + 5); read(0) = -12; place() = 116
+            tape(2^352); read(0) = -12; place() = 106; sum(0) = 0
             """);
     }
 
@@ -467,6 +476,10 @@ public final class SentenceTests {
 
             open(0, 10, 30); put(0, 11); ask(0, 0, 0, 1) = 1; sum(1) = 6; pool(0) = 16 | 19 | 17
 
+            open(0, 10, 30); put(0, 1); ask(0, 0, 0, 1) = 1; sum(1) = 1; pool(0) = 11 | 29 | 17
+
+            open(0, 10, 30); put(0, 3); ask(0, 0, 0, 1) = 1; sum(1) = 2; pool(0) = 12 | 27 | 17
+
             open(0, 30, 10); put(0, 10); ask(0, 1, 0, 0) = 1; sum(0) = 5; pool(0) = 20 | 15 | 17
 
             open(0, 10, 30); put(0, 29); ask(0, 0, 0, 1) = 1; sum(1) = 290; pool(0) = 300 | 1 | 17
@@ -508,6 +521,9 @@ public final class SentenceTests {
             open(0, 1, 1); sum(14) = 1; fee(0, 0, 1); open(0, 1, 3); sum(14) = 1; fee(0, 0, 1); open(0, 2, 2); sum(14) = 2
             fee(0, 0, 1); open(0, 1, 4); sum(14) = 2; fee(0, 0, 1); open(0, 2, 4); sum(14) = 2; fee(0, 0, 1); open(0, 3, 3); sum(14) = 3
 
+            open(0, 3, 5); sum(14) = 3; fee(0, 0, 1); open(0, 4, 6); sum(14) = 4; fee(0, 0, 1); open(0, 5, 7); sum(14) = 5
+            fee(0, 0, 1); open(0, 255, 257); sum(14) = 255; fee(0, 0, 1); open(0, 65535, 65537); sum(14) = 65535
+
             put(0, 5); !join(0, 0, 1, 2) = NONE; !join(0, 1, 0, 2) = NONE; !join(0, 1, 1, 2) = NONE
 
             open(0, 2^100 - 1, 2^100 - 1); sum(14) = 2^100 - 1; fee(0, 0, 1); open(0, 2^100 - 1, 2^100 - 2); sum(14) = 2^100 - 2
@@ -544,6 +560,8 @@ public final class SentenceTests {
         say("(OVER as above, or if PARTS would not be below 2^100).", """
             open(0, 2^99, 2^99); set(0, 2^99 - 1); set(1, 2^99); !join(0, 0, 1, 2) = OVER; !join(0, 1, 0, 2) = OVER
             !join(0, 1, 1, 2) = OVER; join(0, 0, 0, 2) = 1; sum(2) = 2^99 - 1; pool(0) = 2^100 - 1 | 2^100 - 1 | 2^100 - 1
+
+            open(0, 2^99, 10); set(0, 2^98); set(1, 2^99); join(0, 0, 1, 2) = 1; sum(2) = root(10 * 2^99) / 2; open(1, 10, 2^99); join(1, 1, 0, 2) = 1
 
             open(0, 2^100 - 1, 2^100 - 1); put(0, 1); !join(0, 0, 0, 1) = OVER; !join(0, 0, 2, 1) = OVER; !join(0, 2, 0, 1) = OVER
             !join(0, 2, 2, 1) = NONE
@@ -811,6 +829,7 @@ public final class SentenceTests {
         say("Figure i of a SUM in tens, the lowest being 0. BAD: REGISTER. ArrayIndexOutOfBounds: it has not so many.", """
             figure(0, 0) = 0; !figure(0, 1) = throws.ArrayIndexOutOfBoundsException; !figure(0, -1) = throws.ArrayIndexOutOfBoundsException
             put(0, 1234567890); figure(0, 0) = 0; figure(0, 1) = 9; figure(0, 9) = 1; !figure(0, 10) = throws.ArrayIndexOutOfBoundsException
+            !figure(0, 11) = throws.ArrayIndexOutOfBoundsException; !figure(0, 50) = throws.ArrayIndexOutOfBoundsException
             !figure(0, MAX) = throws.ArrayIndexOutOfBoundsException; !figure(0, MIN) = throws.ArrayIndexOutOfBoundsException
 
             set(15, TOP); figure(15, 0) = 5; figure(15, 77) = 1; figure(15, 76) = 1; figure(15, 75) = 5
@@ -1151,7 +1170,8 @@ public final class SentenceTests {
                 case "open":
                     return open(Formula.valueOf(args.get(0)), Formula.valueOf(args.get(1)), Formula.valueOf(args.get(2)));
                 case "tape":
-                    return tape(args.get(0).substring(1, args.get(0).length() - 1));
+                    boolean isText = args.get(0).startsWith("'");
+                    return tape(isText ? args.get(0).substring(1, args.get(0).length() - 1) : Formula.valueOf(args.get(0)).toString());
                 case "feeds":
                     return tape(args.get(0).substring(1, 2).repeat(Integer.parseInt(args.get(1))));
                 case "ways":
@@ -1227,7 +1247,7 @@ public final class SentenceTests {
             return call("join", pool.longValue(), 12, 13, 14);
         }
 
-        /** Each byte of a text is fed. */
+        /** Each byte of a text is fed, or each figure of a number. */
         private String tape(String text) {
             String answer = "0";
             for (int i = 0; i < text.length(); i++) {
