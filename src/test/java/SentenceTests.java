@@ -1205,10 +1205,16 @@ public final class SentenceTests {
             try {
                 return method.invoke(money, given).toString();
             } catch (InvocationTargetException e) {
-                return "throws." + e.getCause().getClass().getSimpleName();
+                return "throws." + e.getCause().getClass().getSimpleName() + (isByMachine(e.getCause()) ? " by the machine" : "");
             } catch (IllegalAccessException e) {
                 throw new IllegalStateException(e);
             }
+        }
+
+        /** The class must throw by a throw statement; the machine's own exceptions are told by their texts. */
+        private static boolean isByMachine(Throwable thrown) {
+            String text = String.valueOf(thrown.getMessage());
+            return text.equals("/ by zero") || text.matches("Index -?\\d+ out of bounds for length \\d+");
         }
 
         /** A REGISTER becomes any SUM. */
